@@ -542,9 +542,12 @@ public final class StandardRules {
                 plain = sizes[part.operand];
             } else if (part.kind == Part.RULE) {
                 plain = values[part.operand];
-                markOpen(rule, openRules[part.operand], openReasons[part.operand]);
+                if (openRules[part.operand] != NONE) {
+                    markOpen(rule, openRules[part.operand], openReasons[part.operand]);
+                    return 0;
+                }
             }
-            if (!part.looksUp || openRules[rule] != NONE) {
+            if (!part.looksUp) {
                 return plain;
             }
             if (!within(plain, 0, edition.numberCount - 1)) {
