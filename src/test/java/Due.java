@@ -8,6 +8,7 @@ final class Due {
     static final String MEANING = "UnsupportedOperationException";
 
     private static int wrong = 0;
+    private static String about = "";
 
     private Due() {
     }
@@ -46,8 +47,51 @@ final class Due {
     static void compare(String what, String want, String got) {
         if (!want.equals(got)) {
             wrong++;
-            System.out.println(what + ": answered " + got + ", due is " + want);
+            System.out.println(about + what + ": answered " + got + ", due is " + want);
         }
+    }
+
+    /** The test of one sentence of the document: what is not as due in it is told with the sentence. */
+    static void sentence(String words, Runnable test) {
+        about = "\"" + words + "\" ";
+        compare("to its end", "0", answer(test));
+        about = "";
+    }
+
+    /** A text that becomes an edition of a new object. */
+    static void right(String text) {
+        StandardRules x = new StandardRules();
+        write(x, text);
+        is("edition of " + text, 0, () -> x.edition(0));
+        is("place of " + text, -1, () -> x.place());
+    }
+
+    /** A text that is wrong at a place, on a new object. */
+    static void wrong(String text, int place) {
+        StandardRules x = new StandardRules();
+        write(x, text);
+        is("edition of " + text, MEANING, () -> x.edition(0));
+        is("place of " + text, place, () -> x.place());
+    }
+
+    /** A rule's value for w, t, l, n = 1, 2, 3, 4. */
+    static void value(String text, int rule, int want) {
+        StandardRules x = having(text);
+        is("value of " + text, want, () -> x.value(rule, 1, 2, 3, 4));
+    }
+
+    /** A rule that is open for w, t, l, n = 1, 2, 3, 4: in which rule, and why. */
+    static void opens(String text, int rule, int where, int why) {
+        StandardRules x = having(text);
+        is("value of " + text, MEANING, () -> x.value(rule, 1, 2, 3, 4));
+        is("rule of " + text, where, () -> x.open(0));
+        is("why of " + text, why, () -> x.open(1));
+    }
+
+    /** The first open case of a rule. */
+    static void example(String text, int rule, int most, int want) {
+        StandardRules x = having(text);
+        is("example of " + text + " to " + most, want, () -> x.example(rule, most));
     }
 
     /** Puts a text on the tape, eight bytes a call. */

@@ -67,7 +67,7 @@ final class Model {
     int change(int who, int rule, int rank, int value) {
         index(who >= 0 && who <= 9 && rule >= 0 && rule <= 7);
         turn(changes.size() < 20);
-        range(rank >= 0 && rank <= 9 && Math.abs(value) <= 9999);
+        range(rank >= 0 && rank <= 9 && value >= -9999 && value <= 9999);
         changes.add(new Change(who, rule, rank, value));
         return changes.size() - 1;
     }

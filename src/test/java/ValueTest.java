@@ -12,24 +12,24 @@ public final class ValueTest {
     }
 
     private static void reckonsFromLeftToRight() {
-        value("[1]a=7/2*2;", 0, 6);
-        value("[1]a=2*7/2;", 0, 7);
-        value("[1]a=1-2-3;", 0, -4);
-        value("[1]a=1-2*3+4;", 0, -1);
-        value("[1]a=1+2-3+4-5;", 0, -1);
-        value("[1]a=w*1000+t*100+l*10+n;", 0, 1234);
-        value("[10,20,30]a=k1;b=kt;c=a/20;d=w;e=kd*kc;", 4, 400);
-        value("[1]h=5;c=h*h;a=c*c;", 0, 625);
-        value("[1]a=0-7;b=a/2;", 1, -3);
-        value("[1]a=0-7;b=7/a;c=6/a;", 2, 0);
+        Due.value("[1]a=7/2*2;", 0, 6);
+        Due.value("[1]a=2*7/2;", 0, 7);
+        Due.value("[1]a=1-2-3;", 0, -4);
+        Due.value("[1]a=1-2*3+4;", 0, -1);
+        Due.value("[1]a=1+2-3+4-5;", 0, -1);
+        Due.value("[1]a=w*1000+t*100+l*10+n;", 0, 1234);
+        Due.value("[10,20,30]a=k1;b=kt;c=a/20;d=w;e=kd*kc;", 4, 400);
+        Due.value("[1]h=5;c=h*h;a=c*c;", 0, 625);
+        Due.value("[1]a=0-7;b=a/2;", 1, -3);
+        Due.value("[1]a=0-7;b=7/a;c=6/a;", 2, 0);
     }
 
     private static void goesByInts() {
-        value("[1]a=9999*9999*9999;", 0, 9999 * 9999 * 9999);
+        Due.value("[1]a=9999*9999*9999;", 0, 9999 * 9999 * 9999);
         // A product is taken away only when it is whole: the lowest int has no counterpart.
-        value("[1]a=2048*1024*1024;b=0-a/2;", 1, 1 << 30);
-        value("[1]a=2048*1024*1024;b=0-1;c=a/b;", 2, Integer.MIN_VALUE);
-        value("[1]a=2048*1024*1024;b=a-1;", 1, Integer.MAX_VALUE);
+        Due.value("[1]a=2048*1024*1024;b=0-a/2;", 1, 1 << 30);
+        Due.value("[1]a=2048*1024*1024;b=0-1;c=a/b;", 2, Integer.MIN_VALUE);
+        Due.value("[1]a=2048*1024*1024;b=a-1;", 1, Integer.MAX_VALUE);
         StandardRules x = Due.having("[1]a=2048*1024*1024;b=ka;");
         Due.is("far outside", Due.MEANING, () -> x.value(1, 0, 0, 0, 0));
     }
@@ -56,26 +56,26 @@ public final class ValueTest {
     }
 
     private static void isOpenWhereItComesFirst() {
-        opens("[1]a=1/0;", 0, 0, 0);
-        opens("[1]a=k1;", 0, 0, 1);
-        opens("[1]a=0-1;b=ka;", 1, 1, 1);
-        opens("[1]a=1/0+k1;", 0, 0, 0);
-        opens("[1]a=k1+1/0;", 0, 0, 1);
-        opens("[1]a=k1/0;", 0, 0, 1);
-        opens("[1]a=1/k1;", 0, 0, 1);
-        opens("[0]a=1/k0;", 0, 0, 0);
-        opens("[1]a=1/0;b=a;c=b;", 2, 0, 0);
-        opens("[1]a=1/0;b=k1+a;", 1, 1, 1);
-        opens("[1]a=1/0;b=k1;c=b+a;", 2, 1, 1);
-        opens("[1]a=1/0;b=k1;c=a+b;", 2, 0, 0);
-        opens("[1]a=1/0;b=1/a;", 1, 0, 0);
-        opens("[1]a=1/0;b=ka;", 1, 0, 0);
-        opens("[1]a=k1;b=0*a;", 1, 0, 1);
-        opens("[1]h=0;a=1/h;", 0, 0, 0);
+        Due.opens("[1]a=1/0;", 0, 0, 0);
+        Due.opens("[1]a=k1;", 0, 0, 1);
+        Due.opens("[1]a=0-1;b=ka;", 1, 1, 1);
+        Due.opens("[1]a=1/0+k1;", 0, 0, 0);
+        Due.opens("[1]a=k1+1/0;", 0, 0, 1);
+        Due.opens("[1]a=k1/0;", 0, 0, 1);
+        Due.opens("[1]a=1/k1;", 0, 0, 1);
+        Due.opens("[0]a=1/k0;", 0, 0, 0);
+        Due.opens("[1]a=1/0;b=a;c=b;", 2, 0, 0);
+        Due.opens("[1]a=1/0;b=k1+a;", 1, 1, 1);
+        Due.opens("[1]a=1/0;b=k1;c=b+a;", 2, 1, 1);
+        Due.opens("[1]a=1/0;b=k1;c=a+b;", 2, 0, 0);
+        Due.opens("[1]a=1/0;b=1/a;", 1, 0, 0);
+        Due.opens("[1]a=1/0;b=ka;", 1, 0, 0);
+        Due.opens("[1]a=k1;b=0*a;", 1, 0, 1);
+        Due.opens("[1]h=0;a=1/h;", 0, 0, 0);
         // A rule that is open hurts only those that use it.
-        value("[1]a=1/0;b=2;", 1, 2);
-        value("[1]a=k1;b=2;c=b;", 2, 2);
-        value("[7]a=0/1;b=k0;", 1, 7);
+        Due.value("[1]a=1/0;b=2;", 1, 2);
+        Due.value("[1]a=k1;b=2;c=b;", 2, 2);
+        Due.value("[7]a=0/1;b=k0;", 1, 7);
     }
 
     private static void keepsTheLatestOpen() {
@@ -92,19 +92,19 @@ public final class ValueTest {
     }
 
     private static void findsExamples() {
-        example("[1]a=1;", 5, -1);
-        example("[1]a=1/0;", 0, 0);
-        exampleOf("[1]a=w-5+t-5;b=1/a;", 1, 5, 5500);
-        exampleOf("[1]a=w-5+t-5;b=1/a;", 1, 4, -1);
-        exampleOf("[1]a=w*1000+t*100+l*10+n;b=a-2143;c=1/b;", 2, 5, 2143);
-        exampleOf("[1]a=w*1000+t*100+l*10+n;b=a-2143;c=1/b;", 2, 4, 2143);
-        exampleOf("[1]a=w*1000+t*100+l*10+n;b=a-2143;c=1/b;", 2, 3, -1);
-        exampleOf("[1,1,1]a=w+t+l+n;b=ka;", 1, 5, 3);
-        exampleOf("[1,1,1]a=w+t+l+n;b=ka;", 1, 2, 12);
-        exampleOf("[1,1,1]a=w+t+l+n;b=ka;", 1, 1, 111);
-        exampleOf("[1,1,1,1]a=w+t+l+n;b=ka;", 1, 1, 1111);
-        exampleOf("[1,1,1,1,1]a=w+t+l+n;b=ka;", 1, 1, -1);
-        exampleOf("[1]a=w*t*l;b=a*n-625;c=1/b;", 2, 5, 5555);
+        Due.example("[1]a=1;", 0, 5, -1);
+        Due.example("[1]a=1/0;", 0, 0, 0);
+        Due.example("[1]a=w-5+t-5;b=1/a;", 1, 5, 5500);
+        Due.example("[1]a=w-5+t-5;b=1/a;", 1, 4, -1);
+        Due.example("[1]a=w*1000+t*100+l*10+n;b=a-2143;c=1/b;", 2, 5, 2143);
+        Due.example("[1]a=w*1000+t*100+l*10+n;b=a-2143;c=1/b;", 2, 4, 2143);
+        Due.example("[1]a=w*1000+t*100+l*10+n;b=a-2143;c=1/b;", 2, 3, -1);
+        Due.example("[1,1,1]a=w+t+l+n;b=ka;", 1, 5, 3);
+        Due.example("[1,1,1]a=w+t+l+n;b=ka;", 1, 2, 12);
+        Due.example("[1,1,1]a=w+t+l+n;b=ka;", 1, 1, 111);
+        Due.example("[1,1,1,1]a=w+t+l+n;b=ka;", 1, 1, 1111);
+        Due.example("[1,1,1,1,1]a=w+t+l+n;b=ka;", 1, 1, -1);
+        Due.example("[1]a=w*t*l;b=a*n-625;c=1/b;", 2, 5, 5555);
         StandardRules x = Due.having("[1]a=1/w;");
         Due.is("example", 0, () -> x.example(0, 5));
         Due.is("it leaves open() alone", Due.TURN, () -> x.open(0));
@@ -120,26 +120,5 @@ public final class ValueTest {
         for (int i = 0; i < 400; i++) {
             Due.is("example", -1, () -> x.example(7, 5));
         }
-    }
-
-    private static void value(String text, int rule, int want) {
-        StandardRules x = Due.having(text);
-        Due.is("value of " + text, want, () -> x.value(rule, 1, 2, 3, 4));
-    }
-
-    private static void opens(String text, int rule, int where, int why) {
-        StandardRules x = Due.having(text);
-        Due.is("value of " + text, Due.MEANING, () -> x.value(rule, 1, 2, 3, 4));
-        Due.is("rule of " + text, where, () -> x.open(0));
-        Due.is("why of " + text, why, () -> x.open(1));
-    }
-
-    private static void exampleOf(String text, int rule, int most, int want) {
-        StandardRules x = Due.having(text);
-        Due.is("example of " + text + " to " + most, want, () -> x.example(rule, most));
-    }
-
-    private static void example(String text, int most, int want) {
-        exampleOf(text, 0, most, want);
     }
 }
