@@ -23,7 +23,7 @@ public final class StandardRules {
     private final Reader reader = new Reader();
     private final Edition[] editions = new Edition[MOST_EDITIONS];
     private final Changes changes = new Changes();
-    private final Reckoner reckoner = new Reckoner(changes);
+    private final Reckoner reckoner = new Reckoner();
     private int editionCount = 0;
     private int wrongPlace = NONE;
     private int orderCustomer = 0;
@@ -86,7 +86,7 @@ public final class StandardRules {
             return changes.numbers[change];
         }
         reckoner.setSizes(w, t, l, n);
-        boolean isOpen = reckoner.findsOpen(editions[edition], orderCustomer, rule);
+        boolean isOpen = reckoner.findsOpen(editions[edition], changes, orderCustomer, rule);
         if (isOpen) {
             latestOpenRule = reckoner.openRules[rule];
             latestOpenReason = reckoner.openReasons[rule];
@@ -161,7 +161,7 @@ public final class StandardRules {
                 for (int l = 0; l <= most; l++) {
                     for (int n = 0; n <= most; n++) {
                         reckoner.setSizes(w, t, l, n);
-                        if (reckoner.findsOpen(edition, orderCustomer, rule)) {
+                        if (reckoner.findsOpen(edition, changes, orderCustomer, rule)) {
                             return w * 1000 + t * 100 + l * 10 + n;
                         }
                     }
@@ -476,15 +476,10 @@ public final class StandardRules {
      * uses stands ahead of it, and a rule that is used often is not reckoned often.
      */
     private static final class Reckoner {
-        private final Changes changes;
         private final int[] sizes = new int[SIZES];
         private final int[] values = new int[RULES];
         private final int[] openRules = new int[RULES];
         private final int[] openReasons = new int[RULES];
-
-        Reckoner(Changes changes) {
-            this.changes = changes;
-        }
 
         void setSizes(int w, int t, int l, int n) {
             sizes[0] = w;
@@ -494,7 +489,7 @@ public final class StandardRules {
         }
 
         /** Reckons up to a rule; answers whether that one is open. */
-        boolean findsOpen(Edition edition, int customer, int rule) {
+        boolean findsOpen(Edition edition, Changes changes, int customer, int rule) {
             for (int i = 0; i < edition.ruleCount; i++) {
                 int letter = edition.letters[i];
                 int change = changes.counting(customer, letter);
